@@ -52,6 +52,16 @@ public final class ConstantTest {
         check.due("28: drop the last one", x.drop(58), 57);
         check.due("32: the last one now", x.placed(0, 56), 57);
         check.due("32: none behind", x.placed(0, 57), NONE);
+        check.due("31: the last one is gone", x.told(58, 2), NONE);
+        check.due("28: the last one is gone", x.drop(58), BAD);
+        check.due("31: the last number", x.told(59, 1), 59);
+        check.due("31: no such constant when all are given", x.told(60, 1), BAD);
+        KindRows y = new KindRows();
+        for (int i = 0; i < 60; i++) {
+            y.constant(3, i);
+        }
+        check.due("29: all in one enumeration", y.reorder(3), 60);
+        check.due("28: all in one enumeration", y.drop(y.placed(3, 0)), 59);
     }
 
     private static void naming() {
@@ -223,6 +233,9 @@ public final class ConstantTest {
         }
         for (int i = 0; i < 40; i++) {
             check.due("33: put", x.put(i, i + 1), 0);
+        }
+        for (int i = 0; i < 40; i++) {
+            check.due("34: value", x.get(i), i + 1);
         }
         check.due("33: full", x.put(40, 1), FULL);
         check.due("34: full", x.get(40), 0);

@@ -30,6 +30,10 @@ public final class FamilyTest {
         check.due("23: full", x.family(POINT, NONE, NONE, NONE), FULL);
         check.due("23: bad before full", x.family(POINT, POINT, NONE, NONE), BAD);
         check.due("23: nothing changed", x.count(2), 6);
+        x.point(0, 0);
+        check.due("24: the last family", x.tag(5, 0), 0);
+        check.due("24: no such family when there are all", x.tag(6, 0), BAD);
+        check.due("25: no such family when there are all", x.tagged(6, 0), BAD);
     }
 
     private static void tags() {
