@@ -425,8 +425,8 @@ public final class KindRows {
     private long[] rowParts(int m, int k, int item) {
         long[] parts = new long[Figure.FIRST_ITEM + m];
         parts[0] = m;
-        parts[1] = k;
-        parts[2] = item;
+        parts[Figure.K] = k;
+        parts[Figure.ITEM_AT_K] = item;
         for (int i = 0; i < m; i++) {
             parts[Figure.FIRST_ITEM + i] = numberAt(i);
         }
@@ -530,7 +530,7 @@ public final class KindRows {
 
     /** One figure. Its parts stand as part() tells them, figures among them by their numbers. */
     private static final class Figure {
-        static final int FIRST_ITEM = 3, FIRST_PLACE = 1;
+        static final int K = 1, ITEM_AT_K = 2, FIRST_ITEM = 3, FIRST_PLACE = 1;
 
         private final int kind;
         private final long[] parts;
@@ -676,8 +676,19 @@ public final class KindRows {
             if (a.kind == SHELF) {
                 return Integer.compare(a.number, b.number);
             }
-            // of a row m does not count, and k only behind all items
-            int from = a.kind == ROW ? 2 : 0;
+            // a beginning is less whatever stands at k: with that, one order of all rows begins with their items
+            int sign = compareFrom(a.kind == ROW ? Figure.FIRST_ITEM : 0, a, b);
+            return sign == 0 && a.kind == ROW ? compareAtK(a, b) : sign;
+        }
+
+        /** For rows whose items are alike. */
+        private static int compareAtK(Figure a, Figure b) {
+            int sign = Long.compare(a.parts[Figure.ITEM_AT_K], b.parts[Figure.ITEM_AT_K]);
+            return sign != 0 ? sign : Long.compare(a.parts[Figure.K], b.parts[Figure.K]);
+        }
+
+        /** By the parts from one on; if one figure's are a beginning of the other's, it is less. */
+        private int compareFrom(int from, Figure a, Figure b) {
             int until = Math.min(a.parts.length, b.parts.length);
             for (int i = from; i < until; i++) {
                 int sign = Long.compare(sortKey(a.kind, a.parts[i]), sortKey(b.kind, b.parts[i]));
@@ -685,10 +696,7 @@ public final class KindRows {
                     return sign;
                 }
             }
-            if (a.parts.length != b.parts.length) {
-                return Integer.compare(a.parts.length, b.parts.length);
-            }
-            return a.kind == ROW ? Long.compare(a.parts[1], b.parts[1]) : 0;
+            return Integer.compare(a.parts.length, b.parts.length);
         }
 
         private long sortKey(int kind, long part) {

@@ -18,6 +18,7 @@ public final class FigureTest {
         orderOfDoubles();
         orderOfPairs();
         orderOfRows();
+        oneOrderOfRows();
         orderOfShelves();
         ranks();
         ranksWhilePairsAreCompared();
@@ -266,18 +267,46 @@ public final class FigureTest {
         return x.row(items.length, k);
     }
 
-    /** The parts of a row in the order: the item at k, all items, k. */
+    /** The parts of a row in the order: all items, a beginning being less, the item at k, k. */
     private static void orderOfRows() {
         KindRows x = new KindRows();
         before("a beginning", x, row(x, 0, 4), row(x, 0, 4, LEAST));
         before("a longer beginning", x, row(x, 1, 4, 5), row(x, 1, 4, 5, -9));
+        before("a beginning, k higher", x, row(x, 1, 4, 4), row(x, 0, 4, 4, 0));
+        before("a beginning, the item at k higher", x, row(x, 0, 1), row(x, 1, 1, 0, 0, 0, 0, 0, 0, 0));
+        before("a beginning, the item at k far higher", x, row(x, 1, LEAST, MOST), row(x, 0, LEAST, MOST, LEAST));
+        before("a beginning of all but one", x, row(x, 10, 0, 0, 0, 0, 0, 0, 0, 0, 0, 0, 7),
+            row(x, 11, 0, 0, 0, 0, 0, 0, 0, 0, 0, 0, 7, -7));
         before("items before how many", x, row(x, 0, 4, 5, 6), row(x, 0, 4, 6));
         before("k behind all items", x, row(x, 1, 4, 4, 3), row(x, 0, 4, 4, 5));
-        before("k when all items are alike", x, row(x, 0, 4, 4), row(x, 1, 4, 4));
-        before("the item at k", x, row(x, 0, 3, 3), row(x, 0, 4, 0));
-        before("the item at k before all items", x, row(x, 1, 9, 2), row(x, 1, 1, 3));
+        before("the item at k behind all items", x, row(x, 1, 1, 3), row(x, 1, 9, 2));
+        before("the item at k, then k, when all items are alike", x, row(x, 1, 5, 3), row(x, 0, 5, 3));
+        before("k when all items are alike, and the item at k", x, row(x, 0, 4, 4), row(x, 1, 4, 4));
+        before("the first item", x, row(x, 0, 3, 3), row(x, 0, 4, 0));
         before("ints by size", x, row(x, 0, LEAST), row(x, 0, MOST));
-        before("a beginning, k higher", x, row(x, 1, 4, 4), row(x, 0, 4, 4, 0));
+    }
+
+    /** Of rows there is one order, in whichever order they are made; pairs of them follow it. */
+    private static void oneOrderOfRows() {
+        int[][] rising = {{1}, {1, 0}, {1, 9}, {2, 0}, {5, 0}};
+        int[] k = {0, 1, 1, 1, 1};
+        for (int first = 0; first < 5; first++) {
+            for (int step = 1; step < 5; step++) {
+                KindRows x = new KindRows();
+                int[] number = new int[5];
+                for (int i = 0; i < 5; i++) {
+                    int at = (first + i * step) % 5;
+                    number[at] = row(x, k[at], rising[at]);
+                }
+                for (int a = 0; a < 5; a++) {
+                    check.due("21: rows from " + first + " by " + step, x.ranked(a), number[a]);
+                    for (int b = a + 1; b < 5; b++) {
+                        before("rows from " + first + " by " + step, x, number[a], number[b]);
+                    }
+                }
+                before("pairs of rows", x, x.pair(number[0], number[4]), x.pair(number[1], number[0]));
+            }
+        }
     }
 
     private static void orderOfShelves() {

@@ -489,11 +489,11 @@ final class Model {
     }
 
     private static int compareRows(Row one, Row other) {
-        if (one.item != other.item) {
-            return Integer.compare(one.item, other.item);
-        }
         int sign = Arrays.compare(one.items, other.items);
-        return sign != 0 ? sign : Integer.compare(one.k, other.k);
+        if (sign != 0) {
+            return sign;
+        }
+        return one.item != other.item ? Integer.compare(one.item, other.item) : Integer.compare(one.k, other.k);
     }
 
     int order(int a, int b) {
