@@ -12,6 +12,9 @@ public final class KindRows {
     private static final int MOST_CONSTANTS = 60, ENUMERATIONS = 4, NAMES = 10000;
     private static final long MULTIPLIER = 48271, MODULUS = 2147483647;
 
+    /** The bits of a double without its sign. */
+    private static final long ALL_BUT_SIGN = 0x7fffffffffffffffL;
+
     /** What a call for a 64-bit number answers when there is none. */
     private static final long NO_NUMBER = -3000000000000000000L;
 
@@ -409,7 +412,7 @@ public final class KindRows {
 
     /** What is not a number has many bit patterns, and is told by one of them alone. */
     private static long oneNan(long bits) {
-        boolean nan = (bits & Long.MAX_VALUE) > 0x7ff0000000000000L;
+        boolean nan = (bits & ALL_BUT_SIGN) > 0x7ff0000000000000L;
         return nan ? 0x7ff8000000000000L : bits;
     }
 
@@ -702,7 +705,7 @@ public final class KindRows {
         private long sortKey(int kind, long part) {
             if (kind == POINT) {
                 // the bits below the sign of a negative double grow as it falls
-                return part < 0 ? part ^ Long.MAX_VALUE : part;
+                return part < 0 ? part ^ ALL_BUT_SIGN : part;
             }
             if (kind == PAIR) {
                 Figure known = find(part);

@@ -12,11 +12,14 @@ public final class ConstantTest {
         naming();
         dropping();
         reordering();
+        oneEnumerationAlone();
         seeding();
+        greatLinks();
         telling();
         placing();
         keys();
         allKeys();
+        keysOfGoneOnesWhenFull();
         counts();
         failureCounts();
         check.end("ConstantTest");
@@ -139,6 +142,30 @@ public final class ConstantTest {
         check.due("26: behind the others in another order", x.told(x.constant(2, 200), 2), 7);
     }
 
+    /** What is done to one enumeration leaves the others; the link is drawn from for all of them. */
+    private static void oneEnumerationAlone() {
+        KindRows x = new KindRows();
+        for (int i = 0; i < 12; i++) {
+            x.constant(i % 4, i / 4);
+        }
+        x.seed(48271);
+        check.due("29: the second", x.reorder(1), 3);
+        check.due("28: of the third", x.drop(6), 2);
+        for (int place = 0; place < 3; place++) {
+            check.due("29: the first stays, place " + place, x.placed(0, place), 4 * place);
+            check.due("29: the fourth stays, place " + place, x.placed(3, place), 4 * place + 3);
+        }
+        check.due("27: the same name in another one", x.named(1, 1), 5);
+        check.due("28: the third's last moves", x.placed(2, 1), 10);
+        check.due("28: none behind it", x.placed(2, 2), NONE);
+        long link = 48271L * 48271 % 2147483647 * 48271 % 2147483647;
+        check.due("29: the fourth", x.reorder(3), 3);
+        for (int draws = 0; draws < 2; draws++) {
+            link = link * 48271 % 2147483647;
+        }
+        check.due("30: one link for all", x.seed(1), link);
+    }
+
     private static void seeding() {
         KindRows x = new KindRows();
         check.due("30: what it was", x.seed(2147483646), 1);
@@ -156,6 +183,20 @@ public final class ConstantTest {
         x.seed(2);
         x.reorder(0);
         check.due("32: 2 * 48271 is even", x.placed(0, 0), 1);
+    }
+
+    /** LINK times 48271 has more than 32 bits: at its greatest it becomes 2147483647 less 48271. */
+    private static void greatLinks() {
+        KindRows x = new KindRows();
+        x.constant(0, 0);
+        x.constant(0, 1);
+        x.seed(2147483646);
+        check.due("29: a draw", x.reorder(0), 2);
+        check.due("29: an even link changes their places", x.placed(0, 0), 1);
+        check.due("30: the greatest link, drawn once", x.seed(2147483645), 2147435376);
+        check.due("29: a draw", x.reorder(0), 2);
+        check.due("30: the next lower link, drawn once", x.seed(1), 2147387105);
+        check.due("29: an odd link does not", x.placed(0, 0), 1);
     }
 
     private static void telling() {
@@ -245,6 +286,31 @@ public final class ConstantTest {
         check.due("34: value", x.get(0), 78);
         check.due("33: bad before full", x.put(42, 1), BAD);
         check.due("35: keys", x.count(4), 40);
+    }
+
+    private static void keysOfGoneOnesWhenFull() {
+        KindRows x = new KindRows();
+        for (int i = 0; i < 42; i++) {
+            x.constant(0, i);
+        }
+        for (int i = 0; i < 39; i++) {
+            x.put(i, i + 1);
+        }
+        x.drop(5);
+        x.drop(40);
+        x.drop(41);
+        check.due("33: the 40th key, of one that is gone", x.put(40, 9), 0);
+        check.due("33: full, one that is gone", x.put(41, 9), FULL);
+        check.due("34: full, one that is gone", x.get(41), 0);
+        check.due("33: full, made anew", x.put(x.constant(0, 41), 9), FULL);
+        int anew = x.constant(0, 5);
+        check.due("34: made anew", x.get(anew), 6);
+        check.due("33: made anew, its key has a value", x.put(anew, LEAST), 1);
+        check.due("33: gone, its key has a value", x.put(40, MOST), 1);
+        check.due("34: the key of the gone one", x.get(5), LEAST);
+        check.due("34: any number", x.get(40), MOST);
+        check.due("35: keys", x.count(4), 40);
+        check.due("35: constants that are not gone", x.count(3), 41);
     }
 
     private static void counts() {

@@ -10,7 +10,7 @@ public final class LanguageTest {
         "\\b(import|package|throw|throws|try|catch|finally|synchronized|assert|volatile|transient|native|protected|var)\\b",
         "->", "::", "\\b(Object|Double|Float|Long\\.valueOf|Integer\\.valueOf|System\\.(?!arraycopy)|Thread|java\\.)",
         "\\b\\w+Exact\\b", "\\bstatic\\s*\\{", "@", "\\b(equals|hashCode|toString)\\s*\\(", "\\.\\.\\.",
-        "\\[\\s*\\]\\s*\\[\\s*\\]\\s*\\[",
+        "\\[\\s*\\]\\s*\\[\\s*\\]\\s*\\[", "\\b(Integer|Long|Math)\\.(?!(compare|min|max|abs)\\()",
     };
     private static final int MOST_LINES = 60, MOST_CLASSES = 12;
     private static final Check check = new Check();

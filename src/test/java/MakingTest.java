@@ -1,3 +1,6 @@
+import java.util.List;
+import java.util.function.ToIntFunction;
+
 /** Promises 1 to 11: a new object, causes, numbers, and the making of figures. */
 public final class MakingTest {
     private static final int NONE = KindRows.NONE, BAD = KindRows.BAD, FULL = KindRows.FULL;
@@ -16,6 +19,7 @@ public final class MakingTest {
         pairs();
         rows();
         shelves();
+        sixtieth();
         whenFull();
         check.end("MakingTest");
     }
@@ -158,6 +162,11 @@ public final class MakingTest {
         check.due("8: going round", x.part(1, 2), Long.MIN_VALUE);
         check.due("8: number", x.share(1L << 40, 1L << 39), 2);
         check.due("8: longs", x.part(2, 2), 2);
+        long[][] towards0 = {{7, -2, -3}, {-7, -2, 3}, {1, 2, 0}, {-1, 2, 0}, {0, -1, 0}, {Long.MAX_VALUE, -1, -Long.MAX_VALUE},
+            {Long.MIN_VALUE, 1, Long.MIN_VALUE}, {Long.MIN_VALUE, Long.MIN_VALUE, 1}, {Long.MAX_VALUE, Long.MIN_VALUE, 0}};
+        for (long[] each : towards0) {
+            check.due("8: " + each[0] + " by " + each[1], x.part(x.share(each[0], each[1]), 2), each[2]);
+        }
     }
 
     private static void pairs() {
@@ -221,6 +230,47 @@ public final class MakingTest {
         for (int i = 0; i < 12; i++) {
             check.due("11: nothing stands there", x.part(1, 1 + i), NONE);
         }
+    }
+
+    /** An object that has 59 figures, and 7 as all its numbers. */
+    private static KindRows oneLeft() {
+        KindRows x = new KindRows();
+        for (int i = 0; i < 59; i++) {
+            x.span(i, i);
+        }
+        for (int i = 0; i < 12; i++) {
+            x.lay(7);
+        }
+        return x;
+    }
+
+    /** Each kind as the last figure that there may be: it is a figure as all others, and there is no 61st. */
+    private static void sixtieth() {
+        List<ToIntFunction<KindRows>> makings = List.of(x -> x.point(0, 0), x -> x.span(59, 59), x -> x.wide(0, 2, 1),
+            x -> x.share(6, 3), x -> x.pair(58, 58), x -> x.row(12, 11), x -> x.shelf(false, 12));
+        long[] weights = {1, 1, 4, 2, 10, 7, 0};
+        for (int kind = 0; kind < makings.size(); kind++) {
+            KindRows x = oneLeft();
+            String what = "1: kind " + kind + " as the 60th";
+            check.due(what, makings.get(kind).applyAsInt(x), 59);
+            check.due(what + ", kind", x.kind(59), kind);
+            check.due(what + ", weight", x.weight(59, false), weights[kind]);
+            check.due(what + ", ranked", x.ranked(kind == 0 ? 0 : 59), 59);
+            check.due(what + ", first", x.first(59), 59);
+            check.due(what + ", tag", x.tag(x.family(kind, NONE, NONE, NONE), 59), 0);
+            check.due(what + ", tagged", x.tagged(0, 0), kind == 1 ? 60 : 1);
+            check.due(what + ", count", x.count(0), 60);
+            for (ToIntFunction<KindRows> making : makings) {
+                check.due(what + ", no 61st", making.applyAsInt(x), FULL);
+            }
+            check.due(what + ", no 61st", x.kind(60), BAD);
+            check.due(what + ", ranked", x.ranked(60), NONE);
+        }
+        KindRows x = oneLeft();
+        check.failed("1: a failed one as the 60th", x.span(1, 0), x, OWN, 1, 1);
+        check.due("1: the 60th after it", x.shelf(true, 12), 59);
+        check.due("12: the 60th is a shelf, and stays one when there are all", x.set(59, 11, NONE), 1);
+        check.due("13: the 60th", x.at(59, 11), NONE);
     }
 
     private static void whenFull() {
